@@ -504,6 +504,8 @@ public final class FoldDesk {
         private static final int GONE = -1;
 
         int there;
+        /** How many cells have layers. */
+        int cells;
         private final Sheet paper;
         private final int[] spots = new int[MOST_TRIANGLES];
         /** The spots that an act is about to make of all the old ones. */
@@ -511,9 +513,12 @@ public final class FoldDesk {
         private final boolean[] chosen = new boolean[MOST_TRIANGLES];
         private final int[] queue = new int[MOST_TRIANGLES];
         private int queued;
+        /** The cells to which the chosen ones come, in the queue's order, when all of them were found. */
+        private final int[] images = new int[MOST_TRIANGLES];
+        private boolean hasImages;
         private final int[] heights = new int[Table.ROOM];
-        /** How many of each cell's triangles are chosen; all 0 but while they are turned. */
-        private final int[] lifted = new int[Table.ROOM];
+        /** By how much the layers of each cell's other triangles rise; all 0 but while the chosen are turned under. */
+        private final int[] rises = new int[Table.ROOM];
         /** The triangles cell by cell from the lowest layer up; each cell's part begins at its base. */
         private final int[] order = new int[MOST_TRIANGLES];
         private final int[] bases = new int[Table.ROOM];
@@ -631,7 +636,9 @@ public final class FoldDesk {
                 spots[f] = GONE;
             }
             there = 0;
+            cells = 0;
             isOrdered = false;
+            hasImages = false;
         }
 
         /** All the paper's triangles, those that were gone too, lie at home. */
@@ -658,6 +665,9 @@ public final class FoldDesk {
                 int spot = row[f];
                 spots[f] = spot;
                 if (spot != GONE) {
+                    if (heights[spot >> 9] == 0) {
+                        cells++;
+                    }
                     heights[spot >> 9]++;
                     there++;
                 }
@@ -671,6 +681,7 @@ public final class FoldDesk {
                 chosen[queue[i]] = false;
             }
             queued = 0;
+            hasImages = false;
         }
 
         private void choose(int f) {
@@ -685,7 +696,8 @@ public final class FoldDesk {
         int chooseSide(int kind, int c, boolean high) {
             chooseNone();
             for (int f = 0; f < paper.size; f++) {
-                if (spots[f] != GONE && (Table.reach(kind, spots[f] >> 9) > c) == high) {
+                int spot = spots[f];
+                if (spot != GONE && (Table.reach(kind, spot >> 9) > c) == high) {
                     choose(f);
                 }
             }
@@ -708,7 +720,7 @@ public final class FoldDesk {
                 return 0;
             }
             choose(triangleIn(cell, over ? heightAt(cell) - 1 : 0));
-            for (int i = 0; i < queued; i++) {
+            for (int i = 0; i < queued && i < queue.length; i++) {
                 int f = queue[i];
                 chooseBeside(kind, c, high, f);
                 // Those farther out follow, as each one chosen brings the next.
@@ -731,59 +743,60 @@ public final class FoldDesk {
             }
         }
 
-        boolean chosenStayOnTable(int kind, int c) {
+        /** Finds the cells to which the chosen ones would come; false when the table has not all of them. */
+        boolean findImages(int kind, int c) {
+            hasImages = false;
             for (int i = 0; i < queued; i++) {
-                if (Table.mirror(kind, c, cellOf(queue[i])) == NONE) {
+                int spot = spots[queue[i]];
+                images[i] = spot == GONE ? NONE : Table.mirror(kind, c, spot >> 9);
+                if (images[i] == NONE) {
                     return false;
                 }
             }
+            hasImages = true;
             return true;
         }
 
         // ---- moving
 
-        void turnChosenOver(int kind, int c) {
+        /** Turns the chosen ones to their images, on top of what lies there. */
+        void turnChosenOver() {
+            if (!hasImages) {
+                return;
+            }
             System.arraycopy(spots, 0, fresh, 0, paper.size);
             for (int i = 0; i < queued; i++) {
-                int f = queue[i];
-                int spot = spots[f];
-                int image = spot == GONE ? NONE : Table.mirror(kind, c, spot >> 9);
-                if (image != NONE) {
-                    int above = heights[spot >> 9] - 1 - ((spot >> 1) & 255);
-                    fresh[f] = spotOf(image, heights[image] + above, (spot & 1) == 0);
-                }
+                int spot = spots[queue[i]];
+                int above = heights[spot >> 9] - 1 - ((spot >> 1) & 255);
+                fresh[queue[i]] = spotOf(images[i], heights[images[i]] + above, (spot & 1) == 0);
             }
             layOut(fresh);
         }
 
-        void turnChosenUnder(int kind, int c) {
-            countLifted();
+        /** Turns the chosen ones to their images, below what lies there. */
+        void turnChosenUnder() {
+            if (!hasImages) {
+                return;
+            }
+            for (int i = 0; i < queued; i++) {
+                rises[spots[queue[i]] >> 9]--;
+                rises[images[i]]++;
+            }
             for (int f = 0; f < paper.size; f++) {
                 int spot = spots[f];
-                fresh[f] = spot;
-                if (spot == GONE) {
-                    continue;
-                }
-                int cell = spot >> 9;
-                int layer = (spot >> 1) & 255;
-                int image = Table.mirror(kind, c, cell);
-                if (!chosen[f]) {
-                    int pushed = image == NONE ? 0 : lifted[image];
-                    fresh[f] = spotOf(cell, layer - lifted[cell] + pushed, (spot & 1) != 0);
-                } else if (image != NONE) {
-                    fresh[f] = spotOf(image, lifted[cell] - 1 - layer, (spot & 1) == 0);
-                }
+                fresh[f] = spot == GONE || chosen[f] ? spot
+                        : spotOf(spot >> 9, ((spot >> 1) & 255) + rises[spot >> 9], (spot & 1) != 0);
             }
             for (int i = 0; i < queued; i++) {
-                lifted[spots[queue[i]] >> 9] = 0;
+                int spot = spots[queue[i]];
+                int above = -rises[spot >> 9] - 1 - ((spot >> 1) & 255);
+                fresh[queue[i]] = spotOf(images[i], above, (spot & 1) == 0);
+            }
+            for (int i = 0; i < queued; i++) {
+                rises[spots[queue[i]] >> 9] = 0;
+                rises[images[i]] = 0;
             }
             layOut(fresh);
-        }
-
-        private void countLifted() {
-            for (int i = 0; i < queued; i++) {
-                lifted[spots[queue[i]] >> 9]++;
-            }
         }
 
         void takeChosenAway() {
@@ -938,7 +951,7 @@ public final class FoldDesk {
             int queued = 1;
             queue[0] = least;
             labels[least] = least;
-            for (int i = 0; i < queued; i++) {
+            for (int i = 0; i < queued && i < queue.length; i++) {
                 for (int e = 0; e < 3; e++) {
                     int g = paper.besideOf(queue[i], e);
                     if (pile.isThere(g) && labels[g] == NONE && queued < queue.length) {
@@ -1017,7 +1030,7 @@ public final class FoldDesk {
             if (number == pile.there) {
                 return STAYS;
             }
-            if (act != CUT && !pile.chosenStayOnTable(kind, c)) {
+            if (act != CUT && !pile.findImages(kind, c)) {
                 return BEYOND;
             }
             return number;
@@ -1048,9 +1061,9 @@ public final class FoldDesk {
                 case FOLD:
                 case FLAP:
                     if (given[at + 3] != 0) {
-                        pile.turnChosenOver(given[at], given[at + 1]);
+                        pile.turnChosenOver();
                     } else {
-                        pile.turnChosenUnder(given[at], given[at + 1]);
+                        pile.turnChosenUnder();
                     }
                     break;
                 case CUT:
@@ -1210,11 +1223,11 @@ public final class FoldDesk {
 
         /** By how many quarters, the least number, the view at hand becomes the shape. */
         int quartersTo(int k) {
-            if (!isKept(k)) {
+            if (!isKept(k) || pile.cells != measures[k].cells) {
                 return NONE;
             }
             measureView();
-            if (seen.cells != measures[k].cells || seen.faces != measures[k].faces) {
+            if (seen.faces != measures[k].faces) {
                 return NONE;
             }
             if (seen.cells == 0) {
@@ -1319,13 +1332,13 @@ public final class FoldDesk {
             int kind = kinds[level];
             int c = lines[level];
             pile.chooseSide(kind, c, ways[level] >= 2);
-            if (!pile.chosenStayOnTable(kind, c)) {
+            if (!pile.findImages(kind, c)) {
                 return NONE;
             }
             if ((ways[level] & 1) == 0) {
-                pile.turnChosenOver(kind, c);
+                pile.turnChosenOver();
             } else {
-                pile.turnChosenUnder(kind, c);
+                pile.turnChosenUnder();
             }
             int answer;
             if (level + 1 < folds) {
