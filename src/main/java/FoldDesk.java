@@ -1427,7 +1427,6 @@ public final class FoldDesk {
             place = next;
             if (b == NONE) {
                 kind = END;
-                place = length;
             } else if (isLetter(b)) {
                 takeWord();
             } else if (isDigit(b) || b == '-') {

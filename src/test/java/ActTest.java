@@ -15,6 +15,7 @@ public final class ActTest {
         flapUnder();
         flapCreaseOnLine();
         flapTakesWhatLiesAbove();
+        flapOfTwoPieces();
         flapRefused();
         cuts();
         punches();
@@ -24,6 +25,8 @@ public final class ActTest {
         undone();
         logged();
         full();
+        thickest();
+        tableCorners();
         Check.end();
     }
 
@@ -156,6 +159,16 @@ public final class ActTest {
         Check.due("flap(2, 1, false, true, 0, 0, 0)", desk.flap(2, 1, false, true, 0, 0, 0), 2);
         desk.undo();
         Check.due("flap(2, 3, false, true, 0, 0, 0)", desk.flap(2, 3, false, true, 0, 0, 0), 14);
+        boolean[] both = {true, false};
+        for (boolean over : both) {
+            desk.sheet(2);
+            desk.fold(2, 2, true, over);
+            Check.due("flap(2, 1, true, over, 0, 0, 1)", desk.flap(2, 1, true, over, 0, 0, 1), 12);
+            desk.undo();
+            Check.due("flap(2, 2, false, over, 0, 0, 0)", desk.flap(2, 2, false, over, 0, 0, 0), 8);
+            Check.due("view(1)", desk.view(1), 1);
+            Check.due("view(2)", desk.view(2), 16);
+        }
     }
 
     private static void flapTakesWhatLiesAbove() {
@@ -174,6 +187,26 @@ public final class ActTest {
         Check.due("flap(0, 1, true, true, 1, 0, 0)", desk.flap(0, 1, true, true, 1, 0, 0), 16);
         Check.layers(desk, 0, 0, 0, 0);
         Check.due("view(1)", desk.view(1), 2);
+    }
+
+    /** Two pieces, so that some of the upper one go along only because they lie above. */
+    private static void flapOfTwoPieces() {
+        FoldDesk desk = Check.desk(4);
+        desk.fold(0, 2, true, true);
+        desk.cut(0, 1, true);
+        Check.due("flap(1, 2, false, true, 0, 0, 0)", desk.flap(1, 2, false, true, 0, 0, 0), 8);
+        Check.layers(desk, 0, 2, 2, 34, 46, 28);
+        Check.due("flap(1, 3, false, true, 0, 0, 0)", desk.flap(1, 3, false, true, 0, 0, 0), 20);
+        Check.layers(desk, 0, 3, 0, 48, 60, 14, 28, 46, 34);
+        desk.undo();
+        desk.turn();
+        Check.layers(desk, 7, 2, 2, 28, 46, 34);
+        Check.due("flap(1, 3, false, false, 7, 0, 0)", desk.flap(1, 3, false, false, 7, 0, 0), 20);
+        Check.layers(desk, 7, 3, 0, 34, 46, 28, 14, 60, 48);
+        desk.undo();
+        Check.due("flap(1, 3, false, true, 7, 0, 0)", desk.flap(1, 3, false, true, 7, 0, 0), 12);
+        Check.layers(desk, 7, 3, 0, 14, 60, 48, 34);
+        Check.layers(desk, 7, 2, 2, 28, 46);
     }
 
     private static void flapRefused() {
@@ -392,5 +425,68 @@ public final class ActTest {
         Check.due("count(1)", desk.count(1), 256);
         Check.due("undo()", desk.undo(), 299);
         Check.due("turn()", desk.turn(), 256);
+    }
+
+    /** The largest paper comes to lie on one cell, and out of it again. */
+    private static void thickest() {
+        FoldDesk desk = Check.desk(8);
+        int[][] folds = {{0, 4}, {0, 2}, {0, 1}, {1, 4}, {1, 2}, {1, 1}, {3, 0}, {2, 1}};
+        for (int i = 0; i < folds.length; i++) {
+            boolean high = folds[i][0] != 3;
+            Check.due("fold " + i, desk.fold(folds[i][0], folds[i][1], high, i % 2 == 0), 128);
+        }
+        Check.due("view(0)", desk.view(0), 1);
+        Check.due("view(1)", desk.view(1), 256);
+        Check.due("cell(0, 0, 0, 0)", desk.cell(0, 0, 0, 0), 256);
+        Check.due("layer(0, 0, 0, 256)", desk.layer(0, 0, 0, 256), NONE);
+        for (int k = 0; k < 256; k++) {
+            int f = desk.layer(0, 0, 0, k);
+            Check.due("triangle(" + f + ", 5)", desk.triangle(f, 5), k);
+        }
+        int top = desk.layer(0, 0, 0, 255);
+        Check.due("turn()", desk.turn(), 256);
+        Check.due("layer(7, 0, 0, 0)", desk.layer(7, 0, 0, 0), top);
+        Check.due("fold(0, 7, true, true)", desk.fold(0, 7, true, true), STAYS);
+        Check.due("thick 256", Text.run(desk, "thick 256;"), 0);
+        Check.due("thick 255", Text.run(desk, "thick 255;"), NONE);
+        Check.due("undo()", desk.undo(), 8);
+        Check.due("undo()", desk.undo(), 7);
+        Check.due("view(1)", desk.view(1), 128);
+        Check.due("punch(0, 0, 0)", desk.punch(0, 0, 0), 128);
+        Check.due("open()", desk.open(), 128);
+        Check.due("view(1)", desk.view(1), 1);
+    }
+
+    private static void tableCorners() {
+        FoldDesk desk = Check.desk(8);
+        for (int kind = 0; kind < 2; kind++) {
+            desk.fold(kind, 1, true, true);
+            desk.fold(kind, 0, true, true);
+            desk.fold(kind, -4, true, true);
+        }
+        corner(desk, -8, 9);
+        Check.due("punch(-8, -8, 0)", desk.punch(-8, -8, 0), 9);
+        desk.sheet(8);
+        for (int kind = 0; kind < 2; kind++) {
+            desk.fold(kind, 1, false, true);
+            desk.fold(kind, 7, false, false);
+            desk.fold(kind, 8, false, true);
+            desk.fold(kind, 12, false, false);
+        }
+        corner(desk, 15, desk.cell(15, 15, 1, 0));
+        Check.due("flap(2, 31, true, true, 15, 15, 2)", desk.flap(2, 31, true, true, 15, 15, 2) > 0 ? 1 : 0, 1);
+        Check.due("cell(15, 15, 2, 0)", desk.cell(15, 15, 2, 0), 0);
+    }
+
+    private static void corner(FoldDesk desk, int at, int height) {
+        Check.due("there is something in the corner", height > 0 ? 1 : 0, 1);
+        for (int q = 0; q < 4; q++) {
+            Check.due("cell in the corner", desk.cell(at, at, q, 0), height);
+            for (int k = 0; k < height; k++) {
+                int f = desk.layer(at, at, q, k);
+                Check.lies(desk, f, at, at, q, desk.triangle(f, 4), k);
+            }
+            Check.due("the top one", desk.cell(at, at, q, 1), desk.layer(at, at, q, height - 1));
+        }
     }
 }

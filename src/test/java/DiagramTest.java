@@ -148,6 +148,8 @@ public final class DiagramTest {
         fault("do a; move a {}", NAME, 3);
         fault("move a {} do b;", NAME, 13);
         fault("move a {} do ab;", NAME, 13);
+        fault("move a {} do aa;", NAME, 13);
+        good("move ax {turn;} do ax;", 1, 3);
         good("move a {} do a;", 0, 2);
         good("move a {turn;} do a; do a;", 2, 5);
         good("move overx {turn;} do overx;", 1, 3);

@@ -14,6 +14,7 @@ public final class ShapeTest {
         emptyShape();
         searchRefused();
         searchOrder();
+        oneCell();
         searchOfTwo();
         searchOfThree();
         searchWithoutWay();
@@ -85,6 +86,12 @@ public final class ShapeTest {
         }
         Check.due("count(5)", desk.count(5), 6);
         Check.due("count(2)", desk.count(2), 0);
+        // Nothing is left of the shape that was kept there before.
+        desk.punch(0, 0, 0);
+        Check.due("keep(1)", desk.keep(1), 15);
+        desk.undo();
+        desk.punch(0, 0, 1);
+        Check.due("alike(1)", desk.alike(1), NONE);
     }
 
     private static void quarters() {
@@ -228,6 +235,21 @@ public final class ShapeTest {
         }
     }
 
+    /** A single cell is left, and it is looked for in all its quarters. */
+    private static void oneCell() {
+        FoldDesk desk = Check.desk(2);
+        for (int f = 1; f < 16; f++) {
+            desk.punch(f / 4 % 2, f / 8, f % 4);
+        }
+        Check.due("keep(0)", desk.keep(0), 1);
+        desk.quarter();
+        Check.due("alike(0)", desk.alike(0), 3);
+        desk.turn();
+        Check.due("alike(0)", desk.alike(0), NONE);
+        Check.due("search(0, 3)", desk.search(0, 3), NONE);
+        Check.due("count(3)", desk.count(3), 0);
+    }
+
     private static void searchOfTwo() {
         FoldDesk desk = Check.desk(2);
         desk.fold(0, 1, true, true);
@@ -275,6 +297,16 @@ public final class ShapeTest {
         Check.due("count(3)", desk.count(3), 32);
         Check.due("search(0, 3)", desk.search(0, 3), FULL);
         Check.due("count(3)", desk.count(3), 1000);
+        int[][] holes = {{0, 0, 3}, {0, 0, 0}, {1, 1, 1}, {1, 0, 0}, {0, 1, 2}};
+        int[] lines = {8, 7, 6, 6, 4};
+        for (int i = 0; i < holes.length; i++) {
+            desk.punch(holes[i][0], holes[i][1], holes[i][2]);
+            if (i > 0) {
+                desk.punch(holes[i][1], holes[i][0], 3 - holes[i][2]);
+            }
+            Check.due("search(0, 1)", desk.search(0, 1), NONE);
+            Check.due("count(3) with holes", desk.count(3), 4 * lines[i]);
+        }
         way(desk, 0, NONE, NONE, NONE, NONE);
     }
 
