@@ -1627,7 +1627,7 @@ public final class FoldDesk {
             int word = wordAtHand();
             if (word < 0 || word > THICK_WORD) {
                 fail(SYNTAX);
-            } else if (size >= MOST_STEPS) {
+            } else if (size >= MOST_STEPS || STEP_OF_WORD[word] == MOVE && moves >= MOST_MOVES) {
                 fail(NO_ROOM);
             } else {
                 beginStep(STEP_OF_WORD[word]);
@@ -1732,9 +1732,7 @@ public final class FoldDesk {
                 fail(SYNTAX);
             } else if (teller() != NONE) {
                 fail(NAME);
-            } else if (moves >= MOST_MOVES) {
-                fail(NO_ROOM);
-            } else {
+            } else if (moves < MOST_MOVES) {
                 names[moves] = tape.word;
                 tellers[moves] = size - 1;
                 ended[moves] = false;

@@ -200,10 +200,22 @@ public final class DiagramTest {
             moves.append("move ").append(name).append("{}");
         }
         good(moves + "move t{}", 0, 20);
-        fault(moves + "move t{}move u{}", ROOM, 165);
-        fault(moves + "move t{}move a{}", NAME, 165);
-        fault(moves + "move t{}move x{}", SYNTAX, 165);
-        fault(moves + "move t{move u{}}", ROOM, 164);
+        // The 21st word move has the fault, whatever stands behind it; what comes ahead of it is told first.
+        for (String rest : new String[] {"move u{}", "move a{}", "move x{}", "move 9", "move", "move{", "move;", "move #"}) {
+            fault(moves + "move t{}" + rest, ROOM, 160);
+        }
+        fault(moves + "move t{move u{}}", ROOM, 159);
+        fault(moves + "try{move t{}}\nmove u{}", ROOM, 166);
+        fault(moves + "do a;move t{}do t;repeat 2{move u{}}", ROOM, 179);
+        fault(moves + "move a{}", NAME, 157);
+        fault(moves + "move move{}", SYNTAX, 157);
+        fault(moves + "move t{}do move;", SYNTAX, 163);
+        fault(moves + "move t{}turn move", SYNTAX, 165);
+        fault(moves + "move t{}moves", SYNTAX, 160);
+        good(moves + "move t{turn;}do t;do a;", 1, 23);
+        FoldDesk desk = Check.desk(2);
+        good(desk, moves + "move t{}", 0, 20);
+        good(desk, moves + "move t{}", 0, 20);
         good(Text.times("try{", 8) + Text.times("}", 8), 0, 8);
         fault(Text.times("try{", 9) + Text.times("}", 9), ROOM, 35);
         fault(Text.times("try{", 8) + "try;", SYNTAX, 35);

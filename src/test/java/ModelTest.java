@@ -237,9 +237,24 @@ public final class ModelTest {
         }
     }
 
+    /** Moves in or behind one another, about as many as there is room for. */
+    private String manyMoves() {
+        StringBuilder text = new StringBuilder();
+        int open = 0;
+        for (int i = any(15, 24); i > 0; i--) {
+            text.append("move ").append((char) ('a' + i)).append(pick("", "", "", "a")).append("{").append(pick("", "turn;"));
+            open++;
+            while (open > 0 && (open == 8 || random.nextInt(3) > 0)) {
+                text.append("}");
+                open--;
+            }
+        }
+        return text.append("}".repeat(open)).append(pick("", "do b;", "do c;")).toString();
+    }
+
     private void text() {
         told.clear();
-        String text = steps(any(0, 8), 0);
+        String text = random.nextInt(20) == 0 ? manyMoves() : steps(any(0, 8), 0);
         if (random.nextInt(3) == 0) {
             text = spoilt(text);
         }

@@ -664,6 +664,7 @@ final class Model {
         String token;
         int place;
         int steps;
+        int moves;
         int depth;
         final List<String> names = new ArrayList<>();
         final List<Step> told = new ArrayList<>();
@@ -756,7 +757,7 @@ final class Model {
             if (!starts.contains(token)) {
                 throw fault(1);
             }
-            if (++steps > 300) {
+            if (++steps > 300 || token.equals("move") && ++moves > 20) {
                 throw fault(4);
             }
             Step step = new Step();
@@ -837,9 +838,6 @@ final class Model {
                 if (names.get(i).equals(token) && ended.contains(told.get(i))) {
                     throw fault(2);
                 }
-            }
-            if (names.size() == 20) {
-                throw fault(4);
             }
             names.add(token);
             told.add(step);
