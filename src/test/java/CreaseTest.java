@@ -158,10 +158,9 @@ public final class CreaseTest {
     /** Maekawa: mountains and valleys differ by two. Kawasaki: each second angle sums up to 180 degrees. */
     private static void laws() {
         Random random = new Random(7);
-        FoldDesk desk = new FoldDesk();
         for (int run = 0; run < 200; run++) {
             int n = 2 + run % 5;
-            desk.sheet(n);
+            FoldDesk desk = Check.desk(n);
             for (int i = 0; i < 12; i++) {
                 desk.fold(random.nextInt(4), random.nextInt(13) - 4, random.nextBoolean(), random.nextBoolean());
             }

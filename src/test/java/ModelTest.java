@@ -4,6 +4,9 @@ import java.util.Random;
 
 /** Many runs of calls, made by a fixed seed each, in which FoldDesk must answer all as the Model does. */
 public final class ModelTest {
+    /** So many of an object's 512 calls are kept for what lies at the end. */
+    private static final int RESERVED = 100;
+
     private final Random random;
     private final Both both;
 
@@ -258,14 +261,15 @@ public final class ModelTest {
         if (random.nextInt(3) == 0) {
             text = spoilt(text);
         }
-        if (text.length() <= 1900) {
+        // Each twenty bytes are a call, and seven more come with them.
+        if (text.length() / 20 + 8 + RESERVED <= both.left()) {
             both.run(text);
         }
     }
 
     private int go() {
         both.sheet(any(2, random.nextInt(6) == 0 ? 8 : 5));
-        for (int i = 0; i < 60 && both.wrong == 0; i++) {
+        for (int i = 0; i < 60 && both.wrong == 0 && both.left() > RESERVED + 60; i++) {
             int which = any(0, 99);
             if (which < 50) {
                 act();
@@ -278,15 +282,16 @@ public final class ModelTest {
             } else {
                 both.sheet(any(1, 9));
             }
-            if (i % 20 == 19) {
-                both.compareAll();
+            if (i % 10 == 9) {
+                both.compareSome(random, 20);
             }
         }
+        both.compareSome(random, both.left());
         return both.wrong;
     }
 
     public static void main(String[] args) {
-        int runs = args.length > 0 ? Integer.parseInt(args[0]) : 300;
+        int runs = args.length > 0 ? Integer.parseInt(args[0]) : 800;
         int from = args.length > 1 ? Integer.parseInt(args[1]) : 0;
         int wrong = 0;
         for (int seed = from; seed < from + runs && wrong < 3; seed++) {

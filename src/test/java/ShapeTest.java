@@ -327,7 +327,7 @@ public final class ShapeTest {
         }
         Check.due("count(2)", desk.count(2), 2);
         Check.due("layer", desk.layer(1, 0, 0, 1), 8);
-        desk.sheet(2);
+        desk = Check.desk(2);
         desk.fold(0, 1, true, true);
         desk.keep(1);
         desk.undo();

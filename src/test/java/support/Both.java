@@ -1,5 +1,6 @@
 import java.util.ArrayList;
 import java.util.List;
+import java.util.Random;
 
 /** A FoldDesk and the Model side by side: each call goes to both, and both must answer alike. */
 final class Both {
@@ -8,12 +9,19 @@ final class Both {
     final String name;
     final List<String> calls = new ArrayList<>();
     int wrong;
+    /** How often the object was called; beyond 512 its answers are free. */
+    int asked;
 
     Both(String name) {
         this.name = name;
     }
 
+    int left() {
+        return 512 - asked;
+    }
+
     private int same(String call, int got, int want) {
+        asked++;
         calls.add(call + " = " + got);
         if (got != want) {
             wrong++;
@@ -155,49 +163,61 @@ final class Both {
         return answer;
     }
 
-    /** Asks for all that lies. */
-    void compareAll() {
-        int n = model.n;
-        for (int f = 0; f < 4 * n * n; f++) {
-            for (int what = 0; what < 6; what++) {
-                triangle(f, what);
+    /** Asks for this and that which lies, with so many calls at the most. */
+    void compareSome(Random random, int most) {
+        int end = asked + most;
+        while (end - asked > 10) {
+            int f = random.nextInt(model.first.length);
+            int which = random.nextInt(20);
+            if (which < 7) {
+                compareTriangle(f);
+            } else if (which < 11) {
+                compareCell(f);
+            } else if (which < 14) {
+                compareSides(f);
+            } else if (which < 18) {
+                comparePoint(random);
+            } else {
+                view(random.nextInt(8));
+                count(random.nextInt(6));
+                pieces();
             }
-            for (int e = 0; e < 3; e++) {
-                side(f, e);
-            }
-            piece(f);
         }
-        for (int x = 0; x < n; x++) {
-            for (int y = 0; y < n; y++) {
-                for (int what = 0; what < 4; what++) {
-                    point(x, y, true, what);
-                    point(x, y, false, what);
-                }
-            }
-        }
-        for (int what = 0; what < 8; what++) {
-            view(what);
-        }
-        for (int what = 0; what < 6; what++) {
-            count(what);
-        }
-        pieces();
-        compareCells();
     }
 
-    private void compareCells() {
-        for (int x = -8; x < 16; x++) {
-            for (int y = -8; y < 16; y++) {
-                for (int q = 0; q < 4; q++) {
-                    int height = cell(x, y, q, 0);
-                    for (int what = 1; what < 5; what++) {
-                        cell(x, y, q, what);
-                    }
-                    for (int k = 0; k < height; k++) {
-                        layer(x, y, q, k);
-                    }
-                }
-            }
+    private void compareTriangle(int f) {
+        for (int what = 0; what < 6; what++) {
+            triangle(f, what);
         }
+    }
+
+    private void compareSides(int f) {
+        for (int e = 0; e < 3; e++) {
+            side(f, e);
+        }
+        piece(f);
+    }
+
+    private void comparePoint(Random random) {
+        int x = random.nextInt(model.n);
+        int y = random.nextInt(model.n);
+        boolean centre = random.nextBoolean();
+        for (int what = 0; what < 4; what++) {
+            point(x, y, centre, what);
+        }
+    }
+
+    /** The cell on which a triangle lies, or on which it lay at first. */
+    private void compareCell(int f) {
+        boolean there = model.triangle(f, 0) == 1;
+        int x = there ? model.triangle(f, 1) : f / 4 % model.n;
+        int y = there ? model.triangle(f, 2) : f / 4 / model.n;
+        int q = there ? model.triangle(f, 3) : f % 4;
+        int height = cell(x, y, q, 0);
+        for (int what = 1; what < 5; what++) {
+            cell(x, y, q, what);
+        }
+        layer(x, y, q, height - 1);
+        layer(x, y, q, height / 2);
     }
 }
